@@ -46,7 +46,6 @@ public final class LampThatFollows {
 
     public int lamp(int kind, int aim, int size, int step) {
         if (!isLampKind(kind) || !fits(AIM, aim) || !fits(SIZE, size) || !fits(STEP, step)) return BAD;
-        if (now.lamps >= MAX_LAMPS) return FULL;
         return now.addLamp(kind, aim, size, step);
     }
 
@@ -69,9 +68,7 @@ public final class LampThatFollows {
     }
 
     public int dance(int place) {
-        if (!isIn(place, 0, MAX_PLACE)) return BAD;
-        if (now.beats >= MAX_BEATS) return FULL;
-        return now.addBeat(place);
+        return isIn(place, 0, MAX_PLACE) ? now.addBeat(place) : BAD;
     }
 
     public int danceOf(int b) {
@@ -195,7 +192,6 @@ public final class LampThatFollows {
     public int report(int beat, int aim, int size, int sight) {
         if (!isIn(beat, 0, MAX_BEATS - 1) || !isIn(sight, OUT, IN)) return BAD;
         if (!fits(AIM, aim) || !fits(SIZE, size)) return BAD;
-        if (reports.count >= MAX_REPORTS) return FULL;
         return reports.addReport(beat, aim, size, sight);
     }
 
@@ -1279,12 +1275,11 @@ public final class LampThatFollows {
             kind = newKind;
             n = number;
             a = size;
-            ran = 0;
             parted = false;
         }
 
         int answer(int act, int x) {
-            int answer = 0;
+            int answer;
             switch (act) {
                 case 0: answer = aims(x); break;
                 case 1: answer = swings(x); break;

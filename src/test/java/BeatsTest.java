@@ -257,7 +257,14 @@ public final class BeatsTest {
         y.lamp(1, 7, 0, 1);
         y.change(0, 1, 25);
         y.change(0, 2, 5);
-        due.is("fewer go before less", y.who(), 0b100111);
+        due.is("four of six", y.who(), 0b100111);
+        LampThatFollows z = Due.dancing(15, 25);
+        Due.rules(z, "hand wait;");
+        z.lamp(1, 15, 0, 1);
+        z.lamp(1, 25, 0, 1);
+        due.is("both", z.who(), 0b11);
+        z.lamp(1, 20, 9, 1);
+        due.is("fewer go before less", z.who(), 0b100);
     }
 
     private static void askingChangesNothing() {

@@ -31,6 +31,7 @@ public final class HostTest {
             due.is("sheet", x.sheet(3, sort, 40), 1);
             due.is("all 0", x.item(3, sort, 0), 0);
             due.is("all 0", x.item(3, sort, 39), 0);
+            due.is("write", x.write(3, 0, 1), 1);
             due.is("write", x.write(3, 39, 1), 1);
             due.is("no more", x.item(3, sort, 40), -12);
         }

@@ -5,6 +5,7 @@ public final class PlansTest {
     public static void main(String[] args) {
         oneLamp();
         twoLamps();
+        plays();
         over();
         games();
         rows();
@@ -111,6 +112,26 @@ public final class PlansTest {
         due.is("game when it is over", x.game(1), 0);
         due.is("play when it is over", x.play(1), -3);
         due.is("play of 0 when it is over", x.play(0), -1);
+    }
+
+    private static void plays() {
+        LampThatFollows x = Due.dancing(10, 30, 30, 30);
+        x.lamp(1, 20, 0, 1);
+        x.lamp(1, 20, 9, 1);
+        // lamp 1 is worth 1 if it goes to 19, and worth 1 if it is held at 20: she is in, or at the rim
+        due.is("play, of several the least", x.play(1), 0);
+        x.beat();
+        // now she comes to 30, at the rim of lamp 1 if that is held at 20
+        x.change(0, 1, 10);
+        x.change(1, 1, 20);
+        due.is("play of 2", x.play(2), 2);
+        due.is("play of 1", x.play(1), 2);
+        x.change(1, 1, 0);
+        due.is("play, of several the least", x.play(2), 0);
+        due.is("play of none", new LampThatFollows().play(1), -3);
+        LampThatFollows y = Due.dancing(5, 6);
+        due.is("play without lamps", y.play(2), 0);
+        due.is("game without lamps", y.game(2), 0);
     }
 
     private static void rows() {

@@ -8,6 +8,7 @@ public final class RulesTest {
         deeds();
         kinds();
         conditions();
+        conditionsAnew();
         facts();
         faultsKeepTheRules();
         due.end();
@@ -70,6 +71,12 @@ public final class RulesTest {
         fault("hand wait", 9);
         fault("hand wait  ", 11);
         fault("handwait;", 0);
+        fault("land wait;", 0);
+        fault("hank wait;", 0);
+        fault("han wait;", 0);
+        fault(";".repeat(200), 0);
+        fault(" ".repeat(194) + "hand 9", 199);
+        fault(" ".repeat(190) + "hand lag 9", 200);
         fault("Hand wait;", 0);
         fault(" ;", 1);
         fault("hand wait;;", 10);
@@ -97,6 +104,8 @@ public final class RulesTest {
         fault("hand if 2 < 10000 wait;", 12);
         fault("hand if 1 < 2 and wait;", 18);
         fault("hand if 1 < 2 or or 1 < 2 wait;", 17);
+        fault("hand if 1 < 2 or wait;", 17);
+        fault("hand if 1 < 2 or lead 5;", 17);
         fault("hand if 1 < 2 not 1 < 2 wait;", 14);
         fault("hand if not wait;", 12);
         fault("hand if (1 < 2 wait;", 15);
@@ -214,6 +223,16 @@ public final class RulesTest {
         holds("1=2 or 2=3 or 4=4");
         fails("1=1 and 2=2 and 3=4");
         holds("(1=2 or (1=1 and 2=2)) and not (3=4)");
+    }
+
+    private static void conditionsAnew() {
+        LampThatFollows x = ruled("hand if 1=1 wait;old if 1=1 and 1=2 or 2=2 lead 1;", 0);
+        due.is("the first rule holds", x.lampOf(3, 4), 41);
+        Due.rules(x, "hand if 1=2 wait;old if 1=1 lead 1;");
+        due.is("the second rule holds", x.lampOf(3, 4), 12);
+        Due.rules(x, "hand if 1=2 and");
+        Due.rules(x, "hand if 2=1 or 3=1 wait;old lead 2;");
+        due.is("the second rule holds", x.lampOf(3, 4), 15);
     }
 
     private static void facts() {
